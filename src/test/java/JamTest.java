@@ -1,14 +1,11 @@
-/** Promises 9 to 12: jam, doubt, found, retrack. */
+/** What is ordinary in promises 9 to 12: jam, doubt, found, retrack. */
 public final class JamTest {
     public static void main(String[] args) {
         jamCountsItemsBetween();
         jamRoundTheLoop();
         jamOnTheWholeLoop();
-        jamWrong();
         doubtOrder();
-        doubtBeyond();
         foundAndNotAgain();
-        foundWrong();
         retrackLosesNotFound();
         retrackWithoutDoubts();
         jamAfterJam();
@@ -58,19 +55,6 @@ public final class JamTest {
         doubts("9: 3 .. 2", s, 2, 1, 4, 3);
     }
 
-    private static void jamWrong() {
-        SorterSteps s = loaded();
-        for (int wrong : new int[] {-1, 6, Integer.MIN_VALUE, Integer.MAX_VALUE}) {
-            Check.argument("9: from " + wrong, () -> s.jam(wrong, 0));
-            Check.argument("9: to " + wrong, () -> s.jam(0, wrong));
-        }
-        Check.due("9: not jammed by that", 0, s.count(6));
-        s.jam(2, 2);
-        Check.state("9: jammed already", () -> s.jam(0, 0));
-        Check.argument("9: the argument comes first", () -> s.jam(0, 6));
-        doubts("9: nothing doubted by that", s);
-    }
-
     private static void doubtOrder() {
         SorterSteps s = loaded();
         doubts("10: not jammed", s);
@@ -80,14 +64,6 @@ public final class JamTest {
         doubts("10: found ones too", s, 4, 3, 2, 1);
         s.retrack();
         doubts("10: no item is doubted any more", s);
-    }
-
-    private static void doubtBeyond() {
-        SorterSteps s = loaded();
-        s.jam(0, 1);
-        for (int i : new int[] {-1, 2, 39, 40, 60, Integer.MIN_VALUE, Integer.MAX_VALUE}) {
-            Check.due("10: doubt(" + i + ")", -1, s.doubt(i));
-        }
     }
 
     private static void foundAndNotAgain() {
@@ -102,21 +78,6 @@ public final class JamTest {
         s.found(1, true);
         s.found(2, true);
         Check.due("11: the last", 0, s.found(3, true));
-    }
-
-    private static void foundWrong() {
-        SorterSteps s = loaded();
-        Check.state("11: not jammed", () -> s.found(1, true));
-        s.jam(0, 1);
-        for (int item : new int[] {0, -1, 6, Integer.MIN_VALUE, Integer.MAX_VALUE}) {
-            Check.argument("11: item " + item, () -> s.found(item, true));
-        }
-        Check.state("11: outside the jam", () -> s.found(1, true));
-        Check.state("11: NEW", () -> s.found(5, false));
-        s.found(3, true);
-        s.retrack();
-        Check.state("11: tracked anew, found", () -> s.found(3, false));
-        Check.state("11: tracked anew, lost", () -> s.found(4, true));
     }
 
     private static void retrackLosesNotFound() {

@@ -1,152 +1,183 @@
+import java.util.Arrays;
 import java.util.Random;
 
-/** Long runs of right and wrong calls, the same ones each time, and what must hold behind each call. */
+/**
+ * Long runs of right and wrong calls, the same ones each time: each answer and each exception has to be PlainSorter's.
+ * A run has the document's 512 calls, so that it asks nothing that is not promised.
+ */
 public final class RandomCallsTest {
-    private static final int RUNS = 400;
+    private static final int RUNS = 3000;
     private static final int CALLS = 512;
+    private static final String[] KINDS = {"item", "induct", "length", "retry", "step", "out", "chute", "jam", "doubt",
+        "found", "retrack", "manual", "tray", "told", "count"};
+    /** How often each kind of call comes in a run: an even mix, a busy loop, many jams. */
+    private static final int[][] WEIGHTS = {
+        {10, 18, 1, 6, 24, 10, 4, 2, 4, 6, 8, 3, 5, 14, 8},
+        {14, 40, 2, 8, 30, 6, 4, 1, 2, 3, 10, 2, 4, 14, 8},
+        {12, 30, 1, 4, 20, 8, 2, 8, 12, 16, 12, 4, 6, 12, 5}};
     private static final int[] EDGES = {
-        Integer.MIN_VALUE, Integer.MIN_VALUE + 1, -2, -1, 0, 1, 2, 6, 7, 9, 10, 39, 40, 59, 60, 61, 99, 100, 101,
+        Integer.MIN_VALUE, Integer.MIN_VALUE + 1, -2, -1, 0, 1, 2, 3, 5, 6, 7, 9, 10, 39, 40, 59, 60, 61, 99, 100, 101,
         Integer.MAX_VALUE - 1, Integer.MAX_VALUE};
 
     private final Random random;
-    private final int trays;
-    private final SorterSteps s;
+    private final int[] weights;
+    private final int longestStep;
+    private final SorterSteps sorter;
+    private final PlainSorter plain;
 
     private RandomCallsTest(long seed) {
         random = new Random(seed);
-        trays = 2 + random.nextInt(random.nextBoolean() ? 8 : 39);
-        s = new SorterSteps(trays, random.nextInt(4));
+        int trays = random.nextBoolean() ? 1 + random.nextInt(9) : random.nextInt(43);
+        int rounds = random.nextInt(4) == 0 ? random.nextInt(13) - 1 : random.nextInt(3);
+        weights = WEIGHTS[random.nextInt(WEIGHTS.length)];
+        longestStep = random.nextInt(3) == 0 ? 20 : 3;
+        sorter = new SorterSteps(trays, rounds);
+        plain = new PlainSorter(trays, rounds);
     }
 
     public static void main(String[] args) {
-        for (int run = 0; run < RUNS; run++) {
-            new RandomCallsTest(run).run("run " + run);
+        for (int seed = 0; seed < RUNS; seed++) {
+            RandomCallsTest run = new RandomCallsTest(seed);
+            boolean alike = true;
+            for (int call = 1; alike && call <= CALLS; call++) {
+                alike = run.makeOneCall("run " + seed + ", call " + call + ": ");
+            }
         }
         Check.end();
     }
 
-    private void run(String name) {
-        for (int call = 0; call < CALLS; call++) {
-            String before = state();
-            int which = random.nextInt(15);
-            String where = name + ", call " + call + " of kind " + which;
-            try {
-                make(which);
-            } catch (IllegalArgumentException | IllegalStateException | UnsupportedOperationException e) {
-                Check.due(where + ": a document's exception", true, mayThrow(which, e));
-                Check.due(where + ": nothing changed by " + e, before, state());
-            } catch (ArrayIndexOutOfBoundsException e) {
-                Check.due(where + ": only tray() may throw " + e, 12, which);
-            }
-            fitsTogether(where);
+    /** Whether both answer alike; once they do not, what follows tells nothing new. */
+    private boolean makeOneCall(String where) {
+        int kind = anyKind();
+        int[] told = anyArguments(kind);
+        String want = answer(() -> onPlain(kind, told));
+        String got = answer(() -> onSorter(kind, told));
+        Check.due(where + KINDS[kind] + Arrays.toString(told), want, got);
+        return want.equals(got);
+    }
+
+    private static String answer(Check.Call call) {
+        try {
+            return Long.toString(call.answer());
+        } catch (RuntimeException e) {
+            return "throws." + e.getClass().getSimpleName();
         }
     }
 
-    private int any(int below, int above) {
-        if (random.nextInt(12) == 0) {
+    private int anyKind() {
+        int chosen = random.nextInt(Arrays.stream(weights).sum());
+        int kind = 0;
+        while (chosen >= weights[kind]) {
+            chosen -= weights[kind];
+            kind++;
+        }
+        return kind;
+    }
+
+    private int any(int lowest, int highest) {
+        if (highest < lowest || random.nextInt(20) == 0) {
             return EDGES[random.nextInt(EDGES.length)];
         }
-        return below + random.nextInt(above - below + 1);
+        return lowest + random.nextInt(highest - lowest + 1);
     }
 
     private int anyItem() {
-        return any(1, Math.max(1, s.count(1)));
+        return any(1, plain.count(1));
     }
 
-    private int anyChute(int below) {
-        return any(below, Math.max(below, s.count(4)));
-    }
-
-    private void make(int which) {
-        switch (which) {
-            case 0: s.item(any(1, 70)); break;
-            case 1:
-            case 2: s.induct(any(Math.max(1, s.count(1) - 4), s.count(1) + 1), any(0, 1), anyChute(0)); break;
-            case 3: s.length(any(40, 100)); break;
-            case 4: s.retry(anyItem(), any(0, 3), anyChute(0)); break;
-            case 5: s.step(any(0, 3)); break;
-            case 6: s.out(any(0, 5), any(0, 3)); break;
-            case 7: s.chute(anyChute(1), random.nextBoolean()); break;
-            case 8: s.jam(any(0, trays - 1), any(0, trays - 1)); break;
-            case 9: s.doubt(any(0, 5)); break;
-            case 10: s.found(random.nextBoolean() ? s.doubt(0) : anyItem(), random.nextInt(4) > 0); break;
-            case 11: s.retrack(); break;
-            case 12: s.tray(any(0, trays - 1)); break;
-            case 13: s.manual(anyItem(), anyChute(1)); break;
-            default: s.told(anyItem(), any(0, 6)); s.count(any(0, 6)); break;
+    /** Mostly one in this state, from a random one on; the calls would nearly all be refused otherwise. */
+    private int anyItemInState(int state) {
+        int items = plain.count(1);
+        if (items == 0 || random.nextInt(5) == 0) {
+            return anyItem();
         }
-    }
-
-    private static boolean mayThrow(int which, RuntimeException e) {
-        boolean argument = e.getClass() == IllegalArgumentException.class;
-        boolean state = e.getClass() == IllegalStateException.class;
-        switch (which) {
-            case 0: return argument || e.getClass() == UnsupportedOperationException.class;
-            case 3:
-            case 6:
-            case 7:
-            case 14: return argument;
-            case 9:
-            case 12: return false;
-            case 11: return state;
-            default: return argument || state;
-        }
-    }
-
-    /** All that can be asked, but for the chutes: to ask them is to tell them. */
-    private String state() {
-        StringBuilder text = new StringBuilder();
-        for (int what = 0; what < 7; what++) {
-            text.append(s.count(what)).append(' ');
-        }
-        for (int item = 1; item <= s.count(1); item++) {
-            text.append("/ ");
-            for (int what = 0; what < 7; what++) {
-                text.append(s.told(item, what)).append(' ');
+        int first = random.nextInt(items);
+        for (int k = 0; k < items; k++) {
+            int number = 1 + (first + k) % items;
+            if (plain.told(number, 0) == state) {
+                return number;
             }
         }
-        text.append("left ");
-        for (int i = 0; i < leftCount(); i++) {
-            for (int what = 0; what < 4; what++) {
-                text.append(s.out(i, what)).append(' ');
-            }
-        }
-        text.append("doubted ");
-        for (int i = 0; s.doubt(i) != -1; i++) {
-            text.append(s.doubt(i)).append(' ');
-        }
-        return text.toString();
+        return anyItem();
     }
 
-    /** An item leaves its tray once, and is NEW or on a tray before that. */
-    private int leftCount() {
-        int left = 0;
-        for (int item = 1; item <= s.count(1); item++) {
-            left += s.told(item, 0) > 1 ? 1 : 0;
+    private int anyDoubtedItem() {
+        int doubted = 0;
+        while (plain.doubt(doubted) != -1) {
+            doubted++;
         }
-        return left;
+        return doubted == 0 || random.nextInt(5) == 0 ? anyItem() : plain.doubt(random.nextInt(doubted));
     }
 
-    private void fitsTogether(String where) {
-        int onTrays = 0;
-        for (int item = 1; item <= s.count(1); item++) {
-            int tray = s.told(item, 4);
-            int position = -1;
-            if (s.told(item, 0) == 1) {
-                onTrays++;
-                position = (tray + s.count(3)) % trays;
-                Check.due(where + ": on its tray", item, s.tray(tray));
-            } else {
-                Check.due(where + ": on no tray", -1, tray);
-            }
-            Check.due(where + ": position", position, s.told(item, 5));
+    private int anyPlace() {
+        return any(0, plain.count(0) - 1);
+    }
+
+    private int anyCode() {
+        return random.nextInt(3) == 0 ? 0 : any(Math.min(1, plain.count(4)), plain.count(4));
+    }
+
+    private int anyTruth() {
+        return random.nextInt(3) > 0 ? 1 : 0;
+    }
+
+    private int[] anyArguments(int kind) {
+        switch (KINDS[kind]) {
+            case "item": return new int[] {random.nextInt(4) == 0 ? any(55, 65) : any(1, 55)};
+            case "induct": return new int[] {anyItemInState(0), any(0, 1), anyCode()};
+            case "length": return new int[] {random.nextInt(3) == 0 ? any(1, 55) : any(55, 65)};
+            case "retry": return new int[] {anyItemInState(1), any(0, 3), anyCode()};
+            case "step": return new int[] {any(0, longestStep)};
+            case "out": return new int[] {any(0, plain.count(1) / 3), any(0, 3)};
+            case "chute": return new int[] {any(1, plain.count(4)), anyTruth()};
+            case "jam": return new int[] {anyPlace(), anyPlace()};
+            case "doubt": return new int[] {any(0, 3)};
+            case "found": return new int[] {anyDoubtedItem(), anyTruth()};
+            case "retrack": return new int[] {};
+            case "manual": return new int[] {anyItemInState(random.nextBoolean() ? 3 : 5), any(1, plain.count(4))};
+            case "tray": return new int[] {anyPlace()};
+            case "told": return new int[] {random.nextBoolean() ? anyItem() : anyItemInState(1), any(0, 6)};
+            default: return new int[] {any(0, 6)};
         }
-        Check.due(where + ": empty trays", trays - onTrays, s.count(2));
-        int left = leftCount();
-        Check.exception(where + ": no more left", IllegalArgumentException.class, () -> s.out(left, 0));
-        Check.due(where + ": doubts only while jammed", true, s.count(6) == 1 || s.doubt(0) == -1);
-        for (int i = 0; s.doubt(i) != -1; i++) {
-            Check.due(where + ": doubted on a tray", 1, s.told(s.doubt(i), 0));
+    }
+
+    private long onPlain(int kind, int[] told) {
+        switch (KINDS[kind]) {
+            case "item": return plain.item(told[0]);
+            case "induct": return plain.induct(told[0], told[1], told[2]);
+            case "length": return plain.length(told[0]);
+            case "retry": plain.retry(told[0], told[1], told[2]); return 0;
+            case "step": return plain.step(told[0]);
+            case "out": return plain.out(told[0], told[1]);
+            case "chute": return Check.truth(plain.chute(told[0], told[1] == 1));
+            case "jam": return plain.jam(told[0], told[1]);
+            case "doubt": return plain.doubt(told[0]);
+            case "found": return plain.found(told[0], told[1] == 1);
+            case "retrack": return plain.retrack();
+            case "manual": return Check.truth(plain.manual(told[0], told[1]));
+            case "tray": return plain.tray(told[0]);
+            case "told": return plain.told(told[0], told[1]);
+            default: return plain.count(told[0]);
+        }
+    }
+
+    private long onSorter(int kind, int[] told) {
+        switch (KINDS[kind]) {
+            case "item": return sorter.item(told[0]);
+            case "induct": return sorter.induct(told[0], told[1], told[2]);
+            case "length": return sorter.length(told[0]);
+            case "retry": sorter.retry(told[0], told[1], told[2]); return 0;
+            case "step": return sorter.step(told[0]);
+            case "out": return sorter.out(told[0], told[1]);
+            case "chute": return Check.truth(sorter.chute(told[0], told[1] == 1));
+            case "jam": return sorter.jam(told[0], told[1]);
+            case "doubt": return sorter.doubt(told[0]);
+            case "found": return sorter.found(told[0], told[1] == 1);
+            case "retrack": return sorter.retrack();
+            case "manual": return Check.truth(sorter.manual(told[0], told[1]));
+            case "tray": return sorter.tray(told[0]);
+            case "told": return sorter.told(told[0], told[1]);
+            default: return sorter.count(told[0]);
         }
     }
 }

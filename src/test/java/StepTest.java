@@ -1,22 +1,16 @@
-/** Promises 5 to 8: retry, step, out, chute. */
+/** What is ordinary in promises 5 to 8: retry, step, out, chute. */
 public final class StepTest {
     public static void main(String[] args) {
         retryGivesCodeWhenNoneIsLeft();
-        retryOfNoneGoesManual();
         retryWithoutCodeGoesManualLater();
         retryToldAnew();
-        retryWrong();
         stepMovesTrays();
         stepGoesOutAtItsChute();
-        stepThroughAllChutes();
         stepFullChute();
         stepOrderWithinAStep();
         stepManual();
-        stepWrong();
         outRows();
-        outWrong();
         chuteAnswersWhatWas();
-        chuteWrong();
         Check.end();
     }
 
@@ -37,15 +31,6 @@ public final class StepTest {
         Check.due("5: at its chute", 1, s.step(4));
         Check.due("5: out there", 2, s.out(0, 1));
         Check.due("5: steps", 16, s.out(0, 2));
-    }
-
-    private static void retryOfNoneGoesManual() {
-        SorterSteps s = Check.sorter(4, 0, 1);
-        s.induct(1, 0, 0);
-        s.retry(1, 0, 1);
-        Check.due("5: without retries", 1, s.step(4));
-        Check.due("5: manual", 3, s.told(1, 0));
-        Check.due("5: it never got the code", 0, s.told(1, 1));
     }
 
     private static void retryWithoutCodeGoesManualLater() {
@@ -71,29 +56,6 @@ public final class StepTest {
         s.step(5);
         Check.due("5: the last one told holds", 2, s.told(1, 1));
         Check.state("5: it has a code now", () -> Check.retry(s, 1, 1, 1));
-    }
-
-    private static void retryWrong() {
-        SorterSteps s = Check.sorter(6, 0, 3);
-        s.induct(1, 0, 0);
-        s.induct(2, 1, 1);
-        for (int item : new int[] {0, -1, 4, Integer.MIN_VALUE, Integer.MAX_VALUE}) {
-            Check.argument("5: item " + item, () -> Check.retry(s, item, 1, 1));
-        }
-        for (int retries : new int[] {-1, 10, Integer.MIN_VALUE, Integer.MAX_VALUE}) {
-            Check.argument("5: retries " + retries, () -> Check.retry(s, 1, retries, 1));
-            Check.argument("5: before the state, retries " + retries, () -> Check.retry(s, 3, retries, 1));
-        }
-        for (int code : new int[] {-1, 3, Integer.MIN_VALUE, Integer.MAX_VALUE}) {
-            Check.argument("5: code " + code, () -> Check.retry(s, 1, 1, code));
-            Check.argument("5: before the state, code " + code, () -> Check.retry(s, 2, 1, code));
-        }
-        Check.state("5: NEW", () -> Check.retry(s, 3, 1, 1));
-        Check.state("5: has a code", () -> Check.retry(s, 2, 0, 0));
-        s.step(6);
-        Check.state("5: manual", () -> Check.retry(s, 1, 1, 1));
-        Check.state("5: out", () -> Check.retry(s, 2, 1, 1));
-        Check.due("5: nothing was told", 0, s.told(1, 6));
     }
 
     private static void stepMovesTrays() {
@@ -125,16 +87,6 @@ public final class StepTest {
         Check.due("6: no position", -1, s.told(1, 5));
         Check.due("6: at chute 3", 1, s.step(1));
         Check.due("6: its chute", 3, s.out(1, 1));
-    }
-
-    private static void stepThroughAllChutes() {
-        for (int chute = 1; chute <= 6; chute++) {
-            SorterSteps s = Check.sorter(13, 0, 1);
-            s.induct(1, 0, chute);
-            Check.due("6: before chute " + chute, 0, s.step(2 * chute - 1));
-            Check.due("6: at chute " + chute, 1, s.step(1));
-            Check.due("6: out at chute " + chute, chute, s.out(0, 1));
-        }
     }
 
     private static void stepFullChute() {
@@ -188,21 +140,6 @@ public final class StepTest {
         Check.due("6: all loops in one call", 1, s.step(100));
     }
 
-    private static void stepWrong() {
-        SorterSteps s = Check.sorter(4, 0, 1);
-        s.induct(1, 0, 1);
-        for (int n : new int[] {-1, 101, Integer.MIN_VALUE, Integer.MAX_VALUE}) {
-            Check.argument("6: step(" + n + ")", () -> s.step(n));
-        }
-        s.jam(3, 3);
-        Check.state("6: jammed", () -> s.step(1));
-        Check.state("6: no steps while jammed", () -> s.step(0));
-        Check.argument("6: the argument comes first", () -> s.step(101));
-        Check.due("6: nothing moved", 0, s.count(3));
-        s.retrack();
-        Check.due("6: goes on", 1, s.step(2));
-    }
-
     private static void outRows() {
         SorterSteps s = Check.sorter(6, 0, 4);
         s.chute(2, true);
@@ -224,19 +161,6 @@ public final class StepTest {
         Check.due("7: a row stays", 10, s.out(3, 2));
     }
 
-    private static void outWrong() {
-        SorterSteps s = Check.sorter(6, 0, 1);
-        Check.argument("7: none left", () -> s.out(0, 0));
-        s.induct(1, 0, 1);
-        s.step(2);
-        for (int i : new int[] {-1, 1, 59, 60, Integer.MIN_VALUE, Integer.MAX_VALUE}) {
-            Check.argument("7: out(" + i + ", 0)", () -> s.out(i, 0));
-        }
-        for (int what : new int[] {-1, 4, Integer.MIN_VALUE, Integer.MAX_VALUE}) {
-            Check.argument("7: out(0, " + what + ")", () -> s.out(0, what));
-        }
-    }
-
     private static void chuteAnswersWhatWas() {
         SorterSteps s = new SorterSteps(40, 0);
         for (int chute = 1; chute <= 6; chute++) {
@@ -250,19 +174,5 @@ public final class StepTest {
         Check.due("8: the other neighbour", false, s.chute(4, false));
         s.jam(0, 0);
         Check.due("8: while jammed", true, s.chute(3, false));
-    }
-
-    private static void chuteWrong() {
-        int[][] traysAndChutes = {{2, 0}, {3, 1}, {4, 1}, {5, 2}, {12, 5}, {13, 6}, {14, 6}, {15, 6}, {40, 6}};
-        for (int[] pair : traysAndChutes) {
-            SorterSteps s = new SorterSteps(pair[0], 0);
-            Check.argument("8: chute 0", () -> Check.truth(s.chute(0, true)));
-            Check.argument("8: one too many", () -> Check.truth(s.chute(pair[1] + 1, true)));
-            Check.argument("8: below", () -> Check.truth(s.chute(Integer.MIN_VALUE, true)));
-            Check.argument("8: above", () -> Check.truth(s.chute(Integer.MAX_VALUE, false)));
-            if (pair[1] > 0) {
-                Check.due("8: the last one", false, s.chute(pair[1], true));
-            }
-        }
     }
 }

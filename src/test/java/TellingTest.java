@@ -1,19 +1,14 @@
-/** Promises 13 to 16: manual, tray, told, count. */
+/** What is ordinary in promises 13 to 16: manual, tray, told, count. */
 public final class TellingTest {
     public static void main(String[] args) {
         manualOfManual();
         manualOfLost();
-        manualWrong();
         trayTellsItem();
-        trayWrong();
         toldOfNewItem();
         toldOnTheWay();
         toldAfterLeaving();
-        toldWrong();
         countAll();
-        countChutes();
         countOutByAllWays();
-        countWrong();
         Check.end();
     }
 
@@ -44,27 +39,6 @@ public final class TellingTest {
         Check.due("13: its row stays", -2, s.out(0, 1));
     }
 
-    private static void manualWrong() {
-        SorterSteps s = Check.sorter(6, 0, 4);
-        s.chute(2, true);
-        s.induct(1, 0, 2);
-        s.step(4);
-        s.induct(2, 0, 1);
-        s.induct(3, 1, 1);
-        s.step(1);
-        for (int item : new int[] {0, -1, 5, Integer.MIN_VALUE, Integer.MAX_VALUE}) {
-            Check.argument("13: item " + item, () -> Check.truth(s.manual(item, 1)));
-        }
-        for (int chute : new int[] {0, -1, 3, Integer.MIN_VALUE, Integer.MAX_VALUE}) {
-            Check.argument("13: chute " + chute, () -> Check.truth(s.manual(4, chute)));
-        }
-        Check.state("13: OVERFLOW", () -> Check.truth(s.manual(1, 1)));
-        Check.state("13: ON A TRAY", () -> Check.truth(s.manual(2, 1)));
-        Check.state("13: OUT", () -> Check.truth(s.manual(3, 1)));
-        Check.state("13: NEW", () -> Check.truth(s.manual(4, 1)));
-        Check.state("13: the state comes before the full chute", () -> Check.truth(s.manual(4, 2)));
-    }
-
     private static void trayTellsItem() {
         SorterSteps s = Check.sorter(4, 0, 2);
         s.induct(2, 1, 0);
@@ -75,16 +49,6 @@ public final class TellingTest {
         Check.due("14: the next stays empty", 0, s.tray(2));
         s.step(2);
         Check.due("14: empty again", 0, s.tray(1));
-    }
-
-    private static void trayWrong() {
-        for (int trays : new int[] {2, 7, 40}) {
-            SorterSteps s = new SorterSteps(trays, 0);
-            for (int tray : new int[] {-1, trays, Integer.MIN_VALUE, Integer.MAX_VALUE}) {
-                Check.exception("14: tray(" + tray + ")", ArrayIndexOutOfBoundsException.class, () -> s.tray(tray));
-            }
-            Check.due("14: the last tray", 0, s.tray(trays - 1));
-        }
     }
 
     private static void told(SorterSteps s, int item, int... due) {
@@ -131,16 +95,6 @@ public final class TellingTest {
         told(s, 4, 3, 0, 0, 10, -1, -1, 0);
     }
 
-    private static void toldWrong() {
-        SorterSteps s = Check.sorter(6, 0, 2);
-        for (int item : new int[] {0, -1, 3, 60, 61, Integer.MIN_VALUE, Integer.MAX_VALUE}) {
-            Check.argument("15: item " + item, () -> s.told(item, 0));
-        }
-        for (int what : new int[] {-1, 7, Integer.MIN_VALUE, Integer.MAX_VALUE}) {
-            Check.argument("15: what " + what, () -> s.told(2, what));
-        }
-    }
-
     private static void counts(SorterSteps s, int... due) {
         for (int what = 0; what < due.length; what++) {
             Check.due("16: count(" + what + ")", due[what], s.count(what));
@@ -161,15 +115,6 @@ public final class TellingTest {
         counts(s, 9, 3, 8, 2, 4, 1, 0);
     }
 
-    private static void countChutes() {
-        int[][] traysAndChutes = {
-            {2, 0}, {3, 1}, {4, 1}, {5, 2}, {6, 2}, {7, 3}, {10, 4}, {11, 5}, {12, 5}, {13, 6}, {14, 6}, {15, 6},
-            {40, 6}};
-        for (int[] pair : traysAndChutes) {
-            Check.due("16: chutes of " + pair[0] + " trays", pair[1], new SorterSteps(pair[0], 0).count(4));
-        }
-    }
-
     /** OUT are those out at a chute, by the sorter or by hand; no others that left their trays. */
     private static void countOutByAllWays() {
         SorterSteps s = Check.sorter(6, 0, 4);
@@ -188,12 +133,5 @@ public final class TellingTest {
         s.manual(3, 1);
         s.manual(4, 1);
         Check.due("16: by hand too", 3, s.count(5));
-    }
-
-    private static void countWrong() {
-        SorterSteps s = Check.sorter(6, 0, 2);
-        for (int what : new int[] {-1, 7, 8, Integer.MIN_VALUE, Integer.MAX_VALUE}) {
-            Check.due("16: count(" + what + ")", -1, s.count(what));
-        }
     }
 }
