@@ -5,6 +5,8 @@ public final class TellingEdgesTest {
             TellingEdgesTest::manualToEachChute);
         Check.sentence("13: false if that is full", TellingEdgesTest::manualToAFullChute);
         Check.sentence("13: (Its row of out() and its code stay as they are.)", TellingEdgesTest::manualKeepsItsRow);
+        Check.sentence("13: (Its row of out() .. stay as they are: with rounds)",
+            TellingEdgesTest::manualKeepsItsRounds);
         Check.sentence("13: IllegalArgumentException: no such item", TellingEdgesTest::manualNoItem);
         Check.sentence("13: no such chute", TellingEdgesTest::manualNoChute);
         Check.sentence("13: IllegalStateException: it is neither", TellingEdgesTest::manualOfNeither);
@@ -71,6 +73,21 @@ public final class TellingEdgesTest {
         Check.due("code of the MANUAL one", 0, s.told(4, 1));
         Check.due("code of the LOST one", 1, s.told(6, 1));
         Check.argument("no row more than the five that left", () -> s.out(5, 0));
+    }
+
+    private static void manualKeepsItsRounds() {
+        SorterSteps s = Check.sorter(6, 2, 1);
+        s.chute(1, true);
+        s.induct(1, 1, 1);
+        s.step(7);
+        s.jam(2, 2);
+        s.retrack();
+        Check.due("a full chute", false, s.manual(1, 1));
+        Check.due("rounds in its row, still LOST", 2, s.out(0, 3));
+        Check.due("by hand", true, s.manual(1, 2));
+        Check.due("rounds in its row", 2, s.out(0, 3));
+        Check.due("rounds told", 2, s.told(1, 2));
+        Check.due("code", 1, s.told(1, 1));
     }
 
     private static void manualNoItem() {
